@@ -284,7 +284,7 @@ public final class RopeMoon {
         if (what == 1) {
             return possibleMinutes(m);
         }
-        seek(field, Harvest.ALL, NONE, m);
+        seek(Harvest.ALL, NONE, m);
         return foundAnswer(m, what, harvest.bestScore);
     }
 
@@ -293,7 +293,7 @@ public final class RopeMoon {
         if (refused != 0) {
             return refused;
         }
-        seek(field, Harvest.BIDS, NONE, m);
+        seek(Harvest.BIDS, NONE, m);
         return foundAnswer(m, what, harvest.bestScore);
     }
 
@@ -302,7 +302,7 @@ public final class RopeMoon {
         if (refused != 0) {
             return refused;
         }
-        seek(field, Harvest.FAIR, NONE, m);
+        seek(Harvest.FAIR, NONE, m);
         int score = harvest.bestScore;
         return foundAnswer(m, what, what == 0 ? Harvest.fewestIn(score) : Harvest.allIn(score));
     }
@@ -312,7 +312,7 @@ public final class RopeMoon {
         if (refused != 0) {
             return refused;
         }
-        seek(field, Harvest.ONE_FARM, f, m);
+        seek(Harvest.ONE_FARM, f, m);
         return foundAnswer(m, what, harvest.bestScore);
     }
 
@@ -321,9 +321,9 @@ public final class RopeMoon {
         if (refused != 0) {
             return refused;
         }
-        seek(field, Harvest.BIDS, NONE, m);
+        seek(Harvest.BIDS, NONE, m);
         int othersWithIt = harvest.bestScore - harvest.bidsOf(f, walks.hangs[harvest.bestState]);
-        seek(field, Harvest.BIDS, f, m);
+        seek(Harvest.BIDS, f, m);
         return harvest.bestScore - othersWithIt;
     }
 
@@ -332,7 +332,7 @@ public final class RopeMoon {
         if (refused != 0) {
             return refused;
         }
-        seek(field, Harvest.ALL, NONE, m);
+        seek(Harvest.ALL, NONE, m);
         int most = harvest.bestScore;
         shifts.seekAll(harvest, walks, possibleMinutes(m));
         int best = 0;
@@ -357,23 +357,24 @@ public final class RopeMoon {
         if (refused != 0) {
             return refused;
         }
-        seek(field, Harvest.ALL, NONE, m);
+        seek(Harvest.ALL, NONE, m);
         int most = harvest.bestScore;
-        int best = 0;
+        int best = most;
         int strip = NONE;
         trial.become(field);
         for (int s = 0; s < field.strips; s++) {
             if (field.trees[s] > 0) {
                 trial.trees[s] = 0;
-                seek(trial, Harvest.ALL, NONE, m);
+                harvest.prepare(trial, Harvest.ALL, NONE);
                 trial.trees[s] = field.trees[s];
-                if (harvest.bestScore - most > best) {
-                    best = harvest.bestScore - most;
+                harvest.seekBest(walks, possibleMinutes(m), best);
+                if (harvest.bestScore > best) {
+                    best = harvest.bestScore;
                     strip = s;
                 }
             }
         }
-        return what == 0 ? best : strip;
+        return what == 0 ? best - most : strip;
     }
 
     public int soonest(int sheaves) {
@@ -390,9 +391,11 @@ public final class RopeMoon {
         if (sheaves > field.sum(field.crops)) {
             return NONE;
         }
+        harvest.prepare(field, Harvest.ALL, NONE);
         int last = possibleMinutes(MAX_SOUGHT);
         for (int m = 1; m <= last; m++) {
-            seek(field, Harvest.ALL, NONE, m);
+            walks.lay(field.strips, field.at, m);
+            harvest.seekBest(walks, m, sheaves - 1);
             if (harvest.bestScore >= sheaves) {
                 return m;
             }
@@ -602,11 +605,11 @@ public final class RopeMoon {
         return Math.min(m, Math.min(field.oil, LAST_MINUTE - field.minute));
     }
 
-    private void seek(Plain over, int goal, int farm, int m) {
+    private void seek(int goal, int farm, int m) {
         int minutes = possibleMinutes(m);
-        walks.lay(over.strips, over.at, minutes);
-        harvest.prepare(over, goal, farm);
-        harvest.seekBest(walks, minutes);
+        walks.lay(field.strips, field.at, minutes);
+        harvest.prepare(field, goal, farm);
+        harvest.seekBest(walks, minutes, NONE);
     }
 
     private int foundAnswer(int m, int what, int told) {
@@ -1283,6 +1286,8 @@ public final class RopeMoon {
         private int goal = ALL;
         private final int[] weights = new int[MAX_STRIPS];
         private final int[] caps = new int[MAX_STRIPS * MAX_STRIPS];
+        // What a first minute over each strip is worth; no later one over it is worth more.
+        private final int[] firstWorths = new int[MAX_STRIPS];
         private final int[] farmGot = new int[FARMS];
         private final int[] hungOver = new int[MAX_SOUGHT];
         private final int[] hungTimes = new int[MAX_SOUGHT];
@@ -1297,6 +1302,17 @@ public final class RopeMoon {
                 weights[s] = weightOf(plain.farms[s], farm);
             }
             fillCaps(caps, 0);
+            for (int o = 0; o < plain.strips; o++) {
+                firstWorths[o] = firstWorth(o);
+            }
+        }
+
+        private int firstWorth(int o) {
+            int worth = 0;
+            for (int s = 0; s < over.strips; s++) {
+                worth += weights[s] * Math.min(caps[o * MAX_STRIPS + s], over.crops[s]);
+            }
+            return worth;
         }
 
         private int weightOf(int ofFarm, int farm) {
@@ -1316,12 +1332,16 @@ public final class RopeMoon {
             }
         }
 
-        private void seekBest(Walks walks, int minutes) {
-            bestScore = -1;
+        /** The first of the best ways, if it is better than some score; otherwise that score stays. */
+        private void seekBest(Walks walks, int minutes, int beaten) {
+            bestScore = beaten;
             int end = walks.end(minutes);
             for (int i = walks.first(minutes); i < end; i++) {
-                if (!walks.twin[i]) {
-                    open(walks.hangs[i]);
+                if (walks.twin[i]) {
+                    continue;
+                }
+                open(walks.hangs[i]);
+                if (goal == FAIR || couldBeWorth() > bestScore) {
                     int score = goal == FAIR ? fairScore() : weighedScore();
                     if (score > bestScore) {
                         bestScore = score;
@@ -1331,13 +1351,21 @@ public final class RopeMoon {
             }
         }
 
+        private int couldBeWorth() {
+            int worth = 0;
+            for (int i = 0; i < hung; i++) {
+                worth += hungTimes[i] * firstWorths[hungOver[i]];
+            }
+            return worth;
+        }
+
         private void open(long hangs) {
             hung = 0;
             long rest = hangs;
             for (int o = 0; o < MAX_STRIPS && rest != 0 && hung < MAX_SOUGHT; o++) {
                 int times = (int) (rest & 15);
                 if (times != 0) {
-                    hungOver[hung] = o * MAX_STRIPS;
+                    hungOver[hung] = o;
                     hungTimes[hung] = times;
                     hung++;
                 }
@@ -1348,7 +1376,7 @@ public final class RopeMoon {
         private int cutOf(int[] table, int s) {
             int could = 0;
             for (int i = 0; i < hung; i++) {
-                could += hungTimes[i] * table[hungOver[i] + s];
+                could += hungTimes[i] * table[hungOver[i] * MAX_STRIPS + s];
             }
             return Math.min(could, over.crops[s]);
         }
@@ -1389,7 +1417,7 @@ public final class RopeMoon {
         private int stripsHungOver() {
             int bits = 0;
             for (int i = 0; i < hung; i++) {
-                bits |= 1 << hungOver[i] / MAX_STRIPS;
+                bits |= 1 << hungOver[i];
             }
             return bits;
         }
