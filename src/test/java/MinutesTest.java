@@ -158,6 +158,10 @@ public final class MinutesTest {
         check.due("minute", x.count(1), 9960);
         x.fill(99);
         check.due("above 9999", x.night(0, 40), -5);
+        x.image(0);
+        check.due("just 9999", x.night(0, 39), 0);
+        check.due("minute", x.count(1), 9999);
+        x.restore(0);
         x.night(0, 37);
         check.due("minute", x.count(1), 9997);
         check.due("most minutes left", x.most(8, 1), 2);

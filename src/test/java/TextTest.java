@@ -79,6 +79,16 @@ public final class TextTest {
         check.due("fault(1) of " + text, x.fault(1), place);
     }
 
+    private static void bounds(String text, int low, int high) {
+        for (int n = 0; n <= 999; n += n < 110 ? 1 : n == 998 ? 1 : 37) {
+            int got = Check.tell(new RopeMoon(), text.replace("N", Integer.toString(n)));
+            check.due(text + " " + n, got < 0 ? got : 0, n < low || n > high ? -33 : 0);
+        }
+        if (high < 999) {
+            fault(text.replace("N", Integer.toString(high + 1)), 3, text.indexOf('N'));
+        }
+    }
+
     private static void faults() {
         fault("Strip 1;", 1, 0);
         fault("strip\t1;", 1, 5);
@@ -107,6 +117,25 @@ public final class TextTest {
         fault("bid 1 2 3;", 2, 8);
         fault("bid 6 #", 3, 4);
         fault("oil strip", 2, 4);
+        fault("z", 2, 0);
+        fault("a", 2, 0);
+        fault("`", 1, 0);
+        fault("{", 1, 0);
+        fault("/", 1, 0);
+        fault(":", 1, 0);
+        bounds("strip N;", 0, 99);
+        bounds("strip 1 reapers N;", 0, 9);
+        bounds("strip 1 tree N;", 0, 30);
+        bounds("strip 1 farm N;", 0, 5);
+        bounds("strip 1;strip 1;lamp at N;", 0, 1);
+        bounds("lamp height N;", 1, 30);
+        bounds("lamp power N;", 0, 20);
+        bounds("lamp fade N;", 0, 9);
+        bounds("oil N;", 0, 999);
+        bounds("bid N 1;", 0, 5);
+        bounds("bid 0 N;", 0, 99);
+        bounds("moths N;", 0, 100);
+        bounds("strip 1;strip 1;cross N;", 0, 1);
         String full = "strip 1;".repeat(16);
         fault(full + "strip", 4, 128);
         fault(full + "strip 100;", 4, 128);
