@@ -12,6 +12,8 @@ final class Edge {
         RopeMoon make();
     }
 
+    static final int[] NO_ROW = {-1, 4, Integer.MIN_VALUE, Integer.MAX_VALUE};
+
     private Edge() { }
 
     /** The call answers by a code, and all is as on a twin that was not asked. */
@@ -58,6 +60,16 @@ final class Edge {
         return x;
     }
 
+    /** The same as another one, but for row 0: so many numbers, all 0. */
+    static Setup withRow(Setup setup, int n) {
+        return () -> {
+            RopeMoon x = setup.make();
+            x.numbers(0, 0, n);
+            return x;
+        };
+    }
+
+    /** Three strips, and the oil has just burnt. */
     static RopeMoon dry() {
         RopeMoon x = Check.told("strip 9;strip 8;strip 7 tree 3;lamp at 1;oil 1;");
         x.minute(0);

@@ -155,6 +155,11 @@ public final class LightEdgesTest {
         check.due("just too far", x.shaded(0), 0);
         x = Check.told("strip 1;strip 1 tree 9;strip 1;lamp height 1 power 3 fade 1;");
         check.due("just near enough", x.shaded(0), 4);
+        x = Check.told("strip 1 tree 30;strip 1;strip 1;strip 1 tree 30;lamp height 1 power 9;");
+        for (int over = 0; over < 4; over++) {
+            check.due("behind the trees at both ends there is nothing", x.shaded(over), 0);
+            check.due("all is lit between the trees at both ends", x.lit(over), 15);
+        }
         check.due("the lamp's own oil aside", Check.told("strip 1;oil 0;").lit(0), 1);
     }
 

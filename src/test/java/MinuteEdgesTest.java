@@ -2,7 +2,6 @@
 public final class MinuteEdgesTest {
     private static final Check check = new Check("MinuteEdgesTest");
     private static final int[] NO_MOVE = {-1, 3, 4, 258, Integer.MIN_VALUE, Integer.MAX_VALUE};
-    private static final int[] NO_ROW = {-1, 4, Integer.MIN_VALUE, Integer.MAX_VALUE};
 
     public static void main(String[] args) {
         theLeastOfThree();
@@ -148,7 +147,7 @@ public final class MinuteEdgesTest {
     }
 
     private static void judgeRefusals() {
-        for (int row : NO_ROW) {
+        for (int row : Edge.NO_ROW) {
             Edge.refused(check, "judge(" + row + ", 0)", Edge::busy, -2, x -> x.judge(row, 0));
             Edge.refused(check, "judge(" + row + ", 4)", Edge::busy, -2, x -> x.judge(row, 4));
         }
@@ -255,7 +254,7 @@ public final class MinuteEdgesTest {
     }
 
     private static void performRefusals() {
-        for (int row : NO_ROW) {
+        for (int row : Edge.NO_ROW) {
             Edge.refused(check, "perform(" + row + ")", Edge::busy, -2, x -> x.perform(row));
         }
         Edge.refused(check, "perform(3)", Edge::busy, -6, x -> x.perform(3));
@@ -347,7 +346,6 @@ public final class MinuteEdgesTest {
         x = Check.told("strip 9;strip 9;strip 9;lamp at 1;");
         x.night(0, 1);
         check.due("0 modulo 3 is 0", x.count(2), 1);
-        x = Check.told("strip 9;strip 9;strip 9;strip 9;lamp at 0;");
         // The moves of seed 1: 2, 0, 0, 2.
         int[] places = {1, 1, 1, 2};
         for (int minutes = 1; minutes <= 4; minutes++) {

@@ -30,12 +30,28 @@ public final class ModelTest {
 
     private void go() {
         due("count", x.count(0), y.count(0));
-        if (random.nextInt(8) != 0) {
+        if (run % 13 == 12) {
+            tell(goodText() + "moths 100;oil 999;");
+            untilLate();
+        } else if (random.nextInt(8) != 0) {
             tell(goodText());
         }
         for (int i = 0; i < CALLS && check.wrong() == 0; i++) {
             call();
         }
+    }
+
+    /** Nights without reaping to the last minutes there can be; the oil is left to chance. */
+    private void untilLate() {
+        for (int i = 0; i < 166; i++) {
+            due("fill", x.fill(60), y.fill(60));
+            due("night", x.night(i, 60), y.night(i, 60));
+        }
+        for (int i = random.nextInt(17); i > 0; i--) {
+            due("night", x.night(i, 60), y.night(i, 60));
+        }
+        int minutes = 25 + random.nextInt(15);
+        due("night", x.night(run, minutes), y.night(run, minutes));
     }
 
     private void due(String what, long got, long want) {

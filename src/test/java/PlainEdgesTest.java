@@ -21,6 +21,7 @@ public final class PlainEdgesTest {
         toldAhead();
         laterOnesStrike();
         tokensGoOn();
+        eachLetterCounts();
         blanks();
         fourDigits();
         firstFaultAlongTheText();
@@ -334,6 +335,22 @@ public final class PlainEdgesTest {
         fault("oil 1/", 1, 5);
         fault("oil `", 1, 4);
         fault("oil {", 1, 4);
+    }
+
+    private static void eachLetterCounts() {
+        String[] texts = {"strip 1 reapers 1 tree 1 farm 1;", "strip 1;lamp at 0 height 1 power 1 fade 1;", "oil 1;",
+            "bid 1 1;", "moths 1;", "strip 1;cross 0;"};
+        for (String text : texts) {
+            check.due("plain of " + text, Check.tell(new RopeMoon(), text) > 0 ? 1 : 0, 1);
+            for (int i = 0; i < text.length(); i++) {
+                if (text.charAt(i) >= 'a') {
+                    StringBuilder odd = new StringBuilder(text);
+                    odd.setCharAt(i, text.charAt(i) == 'z' ? 'a' : (char) (text.charAt(i) + 1));
+                    int start = Math.max(text.lastIndexOf(' ', i), text.lastIndexOf(';', i)) + 1;
+                    fault(odd.toString(), 2, start);
+                }
+            }
+        }
     }
 
     private static void blanks() {

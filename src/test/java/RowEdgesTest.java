@@ -1,7 +1,6 @@
 /** The edges that the document names for ROWS OF NUMBERS, IMAGES and promises 36 to 41, a sentence a method. */
 public final class RowEdgesTest {
     private static final Check check = new Check("RowEdgesTest");
-    private static final int[] NO_ROW = {-1, 4, Integer.MIN_VALUE, Integer.MAX_VALUE};
 
     public static void main(String[] args) {
         numbersRefusals();
@@ -24,7 +23,7 @@ public final class RowEdgesTest {
     }
 
     private static void numbersRefusals() {
-        for (int row : NO_ROW) {
+        for (int row : Edge.NO_ROW) {
             Edge.refused(check, "numbers(" + row + ", 0, 1)", Edge::busy, -2, x -> x.numbers(row, 0, 1));
             Edge.refused(check, "numbers(" + row + ", 0, 41)", Edge::busy, -2, x -> x.numbers(row, 0, 41));
         }
@@ -106,7 +105,7 @@ public final class RowEdgesTest {
     }
 
     private static void writeRefusals() {
-        for (int row : NO_ROW) {
+        for (int row : Edge.NO_ROW) {
             Edge.refused(check, "write(" + row + ", 0, 1)", Edge::busy, -2, x -> x.write(row, 0, 1));
             Edge.refused(check, "write(" + row + ", 99, 1)", Edge::busy, -2, x -> x.write(row, 99, 1));
         }
@@ -148,23 +147,15 @@ public final class RowEdgesTest {
         holds("the others stay", x, 0, "0 90 4 8 9");
     }
 
-    private static Edge.Setup withRow(Edge.Setup setup, int n) {
-        return () -> {
-            RopeMoon x = setup.make();
-            x.numbers(0, 0, n);
-            return x;
-        };
-    }
-
     private static void copyRefusals() {
-        for (int row : NO_ROW) {
+        for (int row : Edge.NO_ROW) {
             Edge.refused(check, "copy(" + row + ")", Edge::busy, -2, x -> x.copy(row));
             Edge.refused(check, "copy(" + row + ") without strips", Edge::bare, -2, x -> x.copy(row));
         }
         Edge.refused(check, "copy(3)", Edge::busy, -6, x -> x.copy(3));
         Edge.refused(check, "copy(0) without strips", Edge::bare, -6, x -> x.copy(0));
-        Edge.refused(check, "copy into three places", withRow(Edge::busy, 3), -7, x -> x.copy(0));
-        Edge.refused(check, "copy into none", withRow(Edge::busy, 0), -7, x -> x.copy(0));
+        Edge.refused(check, "copy into three places", Edge.withRow(Edge::busy, 3), -7, x -> x.copy(0));
+        Edge.refused(check, "copy into none", Edge.withRow(Edge::busy, 0), -7, x -> x.copy(0));
         RopeMoon x = Edge.quiet();
         Check.row(x, 0, 0, 11, 12, 13);
         check.due("too short", x.copy(0), -7);
@@ -172,10 +163,10 @@ public final class RowEdgesTest {
     }
 
     private static void copyLengths() {
-        check.due("just four", withRow(Edge::busy, 4).make().copy(0), 4);
-        check.due("forty", withRow(Edge::busy, 40).make().copy(0), 4);
-        check.due("no strips into none", withRow(Edge::bare, 0).make().copy(0), 0);
-        check.due("no strips into forty", withRow(Edge::bare, 40).make().copy(0), 0);
+        check.due("just four", Edge.withRow(Edge::busy, 4).make().copy(0), 4);
+        check.due("forty", Edge.withRow(Edge::busy, 40).make().copy(0), 4);
+        check.due("no strips into none", Edge.withRow(Edge::bare, 0).make().copy(0), 0);
+        check.due("no strips into forty", Edge.withRow(Edge::bare, 40).make().copy(0), 0);
         RopeMoon x = Check.told("strip 77;".repeat(16));
         x.numbers(0, 0, 16);
         check.due("sixteen", x.copy(0), 16);

@@ -15,6 +15,7 @@ public final class SoughtEdgesTest {
         fewerMinutesLeft();
         firstByMoves();
         dearestBids();
+        dearestFewer();
         fairestFarms();
         fairestThenMost();
         aloneFarms();
@@ -35,6 +36,8 @@ public final class SoughtEdgesTest {
         tours();
         refusedSets();
         seekingChangesNothing();
+        nothingIsLeftOfEarlierCalls();
+        fullPlain();
         check.finish();
     }
 
@@ -221,6 +224,15 @@ public final class SoughtEdgesTest {
         check.due("what the fairest has then", x.fairest(8, 1), 16 * 72);
     }
 
+    private static void dearestFewer() {
+        RopeMoon x = Check.told("strip 99 reapers 9 farm 1;strip 99 reapers 9 farm 2;lamp power 9 fade 9;bid 1 3;bid 2 10;");
+        check.due("as many, but dearer", x.dearest(1, 0), 90);
+        moves("as many, but dearer", x, RopeMoon::dearest, 1, 2);
+        x = Check.told("strip 99 reapers 9 farm 1;strip 99 reapers 1 farm 2;lamp power 9 fade 9;bid 1 3;bid 2 28;");
+        check.due("fewer, but dearer", x.dearest(1, 0), 28);
+        check.due("more, but cheaper", x.most(1, 0), 9);
+    }
+
     private static void fairestFarms() {
         RopeMoon x = Check.told(SPOT);
         check.due("a farm without strips does not count", x.fairest(2, 0), 1);
@@ -308,6 +320,7 @@ public final class SoughtEdgesTest {
             shift("one more each minute", Check.told("strip 0;strip 99 reapers 1;lamp power 9;"), m, m, 0, 1);
         }
         shift("oil for two", Check.told("strip 0;strip 99 reapers 1;lamp power 9;oil 2;"), 5, 2, 0, 1);
+        shift("what one loses is less", Check.told("strip 5 reapers 3;strip 99 reapers 1;lamp power 9 fade 0;"), 2, 1, 0, 1);
         RopeMoon full = Check.told("strip 99 reapers 1;".repeat(15) + "strip 0 reapers 1;lamp at 15 power 20 fade 0;");
         shift("from the last", full, 5, 5, 15, 0);
     }
@@ -318,6 +331,7 @@ public final class SoughtEdgesTest {
     }
 
     private static void felledEdges() {
+        fall("a tree of 1", Check.told("strip 9;strip 0;strip 0 tree 1;strip 0;strip 0;lamp at 4 height 1 power 9;oil 1;"), 1, 2, 2);
         fall("no tree", Check.told("strip 9;strip 9;"), 6, 0, -1);
         fall("a tree that shades nothing", Check.told("strip 9 tree 30;strip 9;"), 6, 0, -1);
         String one = "strip 9 reapers 1;strip 0 tree 1;strip 9 reapers 1;lamp height 1 power 3 fade 1;";
@@ -395,6 +409,7 @@ public final class SoughtEdgesTest {
         check.due("one strip", Check.told("strip 99;").ends(6), 1);
         check.due("nothing to reap", Check.told("strip 0;strip 0;strip 0;").ends(6), 1);
         check.due("no light", Check.told("strip 9;strip 9;strip 9;lamp at 1 power 0;").ends(6), 1);
+        check.due("nobody reaps", Check.told("strip 9 reapers 0;".repeat(16) + "lamp at 8;").ends(6), 1);
         // Minutes over each of sixteen strips tell all ways apart: from the middle, 13 places for six minutes.
         x = Check.told("strip 99 reapers 1;".repeat(16) + "lamp at 8 power 1;");
         int[] due = {3, 7, 16, 36, 79, 171};
@@ -479,5 +494,61 @@ public final class SoughtEdgesTest {
         x.halts(15);
         x.tour(15);
         Edge.alike(check, "seeking", Probe.everythingOf(x), Probe.everythingOf(Edge.busy()));
+    }
+
+    private static void allOf(RopeMoon x, String text, int strips, int at) {
+        check.due("another plain", Check.tell(x, text) > 0 ? 1 : 0, 1);
+        RopeMoon fresh = Check.told(text);
+        for (int m = 8; m >= 1; m--) {
+            check.due(text + " most", x.most(m, 0), fresh.most(m, 0));
+            check.due(text + " first", x.most(m, 10), fresh.most(m, 10));
+            check.due(text + " fairest", x.fairest(m, 0), fresh.fairest(m, 0));
+            check.due(text + " pays", x.pays(1, m), fresh.pays(1, m));
+            check.due(text + " shifted", x.shifted(m, 0), fresh.shifted(m, 0));
+            check.due(text + " felled", x.felled(m, 0), fresh.felled(m, 0));
+            check.due(text + " ends", x.ends(m), fresh.ends(m));
+        }
+        check.due("strips", x.count(0), strips);
+        check.due("hangs", x.count(2), at);
+        check.due("halts", x.halts((1 << strips) - 1), fresh.halts((1 << strips) - 1));
+    }
+
+    private static void nothingIsLeftOfEarlierCalls() {
+        RopeMoon x = new RopeMoon();
+        String rich = "strip 99 reapers 8 tree 9 farm 1;";
+        String poor = "strip 1 reapers 1;";
+        allOf(x, rich.repeat(9) + "lamp at 4 height 3 power 20;", 9, 4);
+        allOf(x, poor.repeat(5) + "lamp at 4 power 2;", 5, 4);
+        allOf(x, poor.repeat(5) + "lamp at 0 power 2;", 5, 0);
+        allOf(x, poor.repeat(2) + "lamp at 0 power 1;", 2, 0);
+        allOf(x, poor + "lamp power 1;", 1, 0);
+        RopeMoon y = Check.told("strip 0;strip 99 reapers 1;lamp at 1 power 9;");
+        check.due("eight minutes", y.most(8, 0), 8);
+        shift("one minute behind eight", y, 1, 1, 0, 1);
+        shift("five", y, 5, 5, 0, 1);
+        shift("two behind five", y, 2, 2, 0, 1);
+        check.due("hung over both behind eight", y.ends(1), 1);
+    }
+
+    /** Sixteen strips of all that can be; none of them is cut bare in eight minutes. */
+    private static void fullPlain() {
+        String strip = "strip 99 reapers 9 tree 30 farm 5;";
+        int[] places = {0, 8, 15};
+        int[] trees = {2, 6, 13};
+        for (int i = 0; i < 3; i++) {
+            RopeMoon x = Check.told(strip.repeat(16) + "lamp at " + places[i] + " height 30 power 20 fade 9;bid 5 99;");
+            check.due("three strips in one minute", x.most(1, 0), 27);
+            check.due("in eight", x.most(8, 0), 8 * 27);
+            check.due("bids", x.dearest(8, 0), 99 * 8 * 27);
+            check.due("fewest", x.fairest(8, 0), 8 * 27);
+            check.due("alone", x.alone(5, 8, 0), 8 * 27);
+            check.due("pays", x.pays(5, 8), 0);
+            check.due("all have nine", x.shifted(5, 0), 0);
+            // Two steps behind a felled tree there is LIGHT 2.
+            fall("a strip more", x, 6, 12, trees[i]);
+            check.due("soonest", x.soonest(216), 8);
+            check.due("not by 8", x.soonest(217), -1);
+            check.due("each lights its neighbours", x.halts(0xFFFF), 0b100100100100101);
+        }
     }
 }

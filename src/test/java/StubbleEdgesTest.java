@@ -1,7 +1,6 @@
 /** The edges that the document names for STUBBLE and THE OTHER lamp, promises 32 to 35, a sentence a method. */
 public final class StubbleEdgesTest {
     private static final Check check = new Check("StubbleEdgesTest");
-    private static final int[] NO_ROW = {-1, 4, Integer.MIN_VALUE, Integer.MAX_VALUE};
     private static final String SPOT = "strip 9 reapers 1;strip 9 reapers 1;strip 9 reapers 1;lamp at 1 power 1;cross 2;";
 
     public static void main(String[] args) {
@@ -14,6 +13,7 @@ public final class StubbleEdgesTest {
         oilAndMinuteCount();
         whereItBeganDoesNotCount();
         nothingExplains();
+        eachAskedAlone();
         exactNumbers();
         refusedMeetings();
         noMovesAndNoStrips();
@@ -34,7 +34,7 @@ public final class StubbleEdgesTest {
     }
 
     private static void refusedRows() {
-        for (int row : NO_ROW) {
+        for (int row : Edge.NO_ROW) {
             both("row " + row, Edge::busy, -2, row, 1);
             both("row " + row + " ahead of m", Edge::bare, -2, row, 0);
         }
@@ -43,35 +43,27 @@ public final class StubbleEdgesTest {
         both("missing ahead of no strips", Edge::bare, -6, 0, 1);
     }
 
-    private static Edge.Setup withRow(Edge.Setup setup, int n) {
-        return () -> {
-            RopeMoon x = setup.make();
-            x.numbers(0, 0, n);
-            return x;
-        };
-    }
-
     private static void refusedLengths() {
         for (int n : new int[] {0, 3, 5, 16, 40}) {
-            both(n + " numbers for four strips", withRow(Edge::busy, n), -7, 0, 1);
-            both(n + " numbers, ahead of m", withRow(Edge::busy, n), -7, 0, 0);
+            both(n + " numbers for four strips", Edge.withRow(Edge::busy, n), -7, 0, 1);
+            both(n + " numbers, ahead of m", Edge.withRow(Edge::busy, n), -7, 0, 0);
         }
         for (int n : new int[] {1, 40}) {
-            both(n + " numbers without strips", withRow(Edge::bare, n), -7, 0, 1);
-            both(n + " numbers without strips, ahead of m", withRow(Edge::bare, n), -7, 0, 9);
+            both(n + " numbers without strips", Edge.withRow(Edge::bare, n), -7, 0, 1);
+            both(n + " numbers without strips, ahead of m", Edge.withRow(Edge::bare, n), -7, 0, 9);
         }
     }
 
     private static void refusedMinutes() {
         for (int m : new int[] {0, 9, -1, Integer.MIN_VALUE, Integer.MAX_VALUE}) {
             both(m + " minutes", Edge::busy, -3, 2, m);
-            both(m + " minutes without strips", withRow(Edge::bare, 0), -3, 0, m);
+            both(m + " minutes without strips", Edge.withRow(Edge::bare, 0), -3, 0, m);
         }
     }
 
     private static void refusedWithoutStrips() {
         for (int m : new int[] {1, 8}) {
-            both("no strips", withRow(Edge::bare, 0), -5, 0, m);
+            both("no strips", Edge.withRow(Edge::bare, 0), -5, 0, m);
         }
     }
 
@@ -142,6 +134,19 @@ public final class StubbleEdgesTest {
         explained(Check.told(SPOT), 1, 0, 0, 9, -8, 9);
     }
 
+    private static void eachAskedAlone() {
+        RopeMoon x = Check.told(SPOT);
+        Check.row(x, 0, 0, 8, 9, 9);
+        Check.row(x, 1, 0, 9, 9, 7);
+        check.due("sure ahead of stubble", x.sure(0, 1), 1);
+        check.due("sure of another row", x.sure(1, 2), 4);
+        check.due("sure of another m", x.sure(1, 1), 0);
+        check.due("sure of another row", x.sure(0, 1), 1);
+        check.due("stubble", x.stubble(1, 2), 1);
+        check.due("stubble of another m", x.stubble(1, 1), 0);
+        check.due("stubble of another row", x.stubble(0, 1), 1);
+    }
+
     private static void exactNumbers() {
         RopeMoon x = Check.told("strip 99 reapers 1;");
         long[] odd = {98 + 256, 98 + 65536, 98 + (1L << 32), 98 - 256};
@@ -169,7 +174,7 @@ public final class StubbleEdgesTest {
     }
 
     private static void refusedMeetings() {
-        for (int row : NO_ROW) {
+        for (int row : Edge.NO_ROW) {
             bothMeetings("moves " + row, Edge::busy, -2, row, 0);
             bothMeetings("others " + row, Edge::busy, -2, 1, row);
             bothMeetings("others " + row + " ahead of missing moves", Edge::busy, -2, 3, row);
