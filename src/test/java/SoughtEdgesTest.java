@@ -410,6 +410,9 @@ public final class SoughtEdgesTest {
         check.due("nothing to reap", Check.told("strip 0;strip 0;strip 0;").ends(6), 1);
         check.due("no light", Check.told("strip 9;strip 9;strip 9;lamp at 1 power 0;").ends(6), 1);
         check.due("nobody reaps", Check.told("strip 9 reapers 0;".repeat(16) + "lamp at 8;").ends(6), 1);
+        // The second strip loses nine in each minute, the first one only if the lamp goes to its tree or beyond.
+        x = Check.told("strip 8 reapers 1;strip 99 reapers 9 tree 30;strip 0;lamp at 2 power 20 fade 9;");
+        check.due("large crops beside small ones", x.ends(6), 7);
         // Minutes over each of sixteen strips tell all ways apart: from the middle, 13 places for six minutes.
         x = Check.told("strip 99 reapers 1;".repeat(16) + "lamp at 8 power 1;");
         int[] due = {3, 7, 16, 36, 79, 171};
