@@ -1566,7 +1566,7 @@ public final class RopeMoon {
             look(plain);
             int all = plain.allStrips();
             int left = 0;
-            while (left <= plain.strips && !canLight(set, all, left)) {
+            while (left <= plain.strips && !canLight(litFrom, lightersOf, set, all, left)) {
                 left++;
             }
             if (left > plain.strips) {
@@ -1581,7 +1581,7 @@ public final class RopeMoon {
             int open = set;
             int left = halts;
             for (int o = strips - 1; o >= 0; o--) {
-                if (!canLight(open, (1 << o) - 1, left)) {
+                if (!canLight(litFrom, lightersOf, open, (1 << o) - 1, left)) {
                     chosen |= 1 << o;
                     open &= ~litFrom[o];
                     left--;
@@ -1601,7 +1601,7 @@ public final class RopeMoon {
         }
 
         // At most 16 deep, as no more halts are left than there are strips.
-        private boolean canLight(int open, int allowed, int left) {
+        private static boolean canLight(int[] lit, int[] lighters, int open, int allowed, int left) {
             if (open == 0) {
                 return true;
             }
@@ -1609,9 +1609,9 @@ public final class RopeMoon {
             if (left <= 0 || s >= MAX_STRIPS) {
                 return false;
             }
-            int lighters = lightersOf[s] & allowed;
+            int overs = lighters[s] & allowed;
             for (int o = 0; o < MAX_STRIPS; o++) {
-                if ((lighters >> o & 1) != 0 && canLight(open & ~litFrom[o], allowed, left - 1)) {
+                if ((overs >> o & 1) != 0 && canLight(lit, lighters, open & ~lit[o], allowed, left - 1)) {
                     return true;
                 }
             }

@@ -2,8 +2,10 @@ import java.io.IOException;
 import java.nio.file.Files;
 import java.nio.file.Path;
 import java.util.ArrayList;
+import java.util.HashMap;
 import java.util.HashSet;
 import java.util.List;
+import java.util.Map;
 import java.util.Set;
 import java.util.regex.Matcher;
 import java.util.regex.Pattern;
@@ -30,6 +32,7 @@ public final class LanguageTest {
         }
         names(code);
         lengths(code);
+        depths(bodies(code));
         check.finish();
     }
 
@@ -58,6 +61,41 @@ public final class LanguageTest {
         for (String name : hidden) {
             check.due("a private method of the name " + name, open.contains(name) ? 1 : 0, 0);
         }
+    }
+
+    /** What stands in each method, by its name; methods of one name are taken together. */
+    private static Map<String, String> bodies(String code) {
+        Map<String, String> all = new HashMap<>();
+        Matcher m = Pattern.compile("(?ms)^( +)(?:public|private)( static)? [\\w\\[\\]]+ (\\w+)\\([^)]*\\) \\{(.*?)^\\1\\}").matcher(code);
+        while (m.find()) {
+            all.merge(m.group(3), m.group(4), String::concat);
+            if (calls(m.group(4), "(?<!\\.)" + m.group(3))) {
+                check.due("calls itself and is static: " + m.group(3), m.group(2) == null ? 0 : 1, 1);
+            }
+        }
+        return all;
+    }
+
+    private static boolean calls(String body, String name) {
+        return Pattern.compile("\\b" + name + "\\(").matcher(body).find();
+    }
+
+    private static void depths(Map<String, String> bodies) {
+        check.due("methods are found", bodies.size() > 100 ? 1 : 0, 1);
+        for (String name : bodies.keySet()) {
+            int deep = depth(bodies, name, 1);
+            check.due("calls from " + name + " go " + deep + " deep, eight at most", deep <= 8 ? 1 : 0, 1);
+        }
+    }
+
+    private static int depth(Map<String, String> bodies, String name, int level) {
+        int most = level;
+        for (String called : bodies.keySet()) {
+            if (level < 20 && !called.equals(name) && calls(bodies.get(name), called)) {
+                most = Math.max(most, depth(bodies, called, level + 1));
+            }
+        }
+        return most;
     }
 
     private static void lengths(String code) {
